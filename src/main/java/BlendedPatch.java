@@ -122,7 +122,7 @@ public final class BlendedPatch {
             return refusedAsBad();
         }
         float bound = (float) b / 1000f;
-        blend.begin(scene);
+        blend.run(scene, 0);
         for (int n = 0; n <= MOST_SWEEPS; n++) {
             if (blend.greatestLeft() < bound) {
                 return n;
@@ -486,13 +486,6 @@ public final class BlendedPatch {
         private int count;
 
         void run(Scene scene, int n) {
-            begin(scene);
-            for (int i = 0; i < n; i++) {
-                sweep();
-            }
-        }
-
-        void begin(Scene scene) {
             for (int c = 0; c < CELLS; c++) {
                 open[c] = scene.isOpen(c % SIDE, c / SIDE);
                 below[c] = false;
@@ -510,6 +503,9 @@ public final class BlendedPatch {
                     }
                     measureSteps(scene, i, here);
                 }
+            }
+            for (int i = 0; i < n; i++) {
+                sweep();
             }
         }
 
@@ -724,7 +720,6 @@ public final class BlendedPatch {
         int parse() {
             orders = 0;
             wanted = NONE;
-            had = 0;
             figures = 0;
             for (int i = 0; i < length; i++) {
                 if (!takes(bytes[i])) {
@@ -753,7 +748,6 @@ public final class BlendedPatch {
             }
             letters[orders] = c;
             had = 0;
-            figures = 0;
             return true;
         }
 

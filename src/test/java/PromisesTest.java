@@ -145,6 +145,13 @@ public final class PromisesTest {
     due("36 before", b.sizes(6, 6), 36);
     due("value 0 again", b.patch(5, 5, 0), 0);
     due("in again", b.inside(5, 5, 1), 1);
+    b.patch(5, 5, 9);
+    b.inside(0, 5, 0);
+    b.sizes(1, 2);
+    b.back();
+    due("all of it back", b.told(4) * 10 + b.told(5), 66);
+    due("its value back", b.patch(5, 5, 8), 9);
+    due("who is in back", b.inside(0, 5, 0), 0);
     int[][] wrongs = {{0, 1}, {7, 1}, {1, 0}, {1, 7}, {-1, -1}, {LOW, 2}, {2, HIGH}};
     for (int[] w : wrongs) bad("sizes " + w[0] + " " + w[1], b, o -> o.sizes(w[0], w[1]));
   }
@@ -159,6 +166,8 @@ public final class PromisesTest {
     due("it lies there", b.at(3, 2, 2), 255);
     due("the picture stays", b.at(3, 2, 0), 0);
     due("states", b.told(11), 4);
+    b.back();
+    due("back", b.at(3, 2, 2), 0);
     int[][] wrongs = {{3, 0, 0}, {0, 2, 0}, {-1, 0, 0}, {0, -1, 0}, {0, 0, -1}, {0, 0, 256}, {5, 5, 1}, {HIGH, LOW, 0}};
     for (int[] w : wrongs) bad("patch " + w[0] + " " + w[1] + " " + w[2], b, o -> o.patch(w[0], w[1], w[2]));
   }
@@ -204,6 +213,9 @@ public final class PromisesTest {
     due("told 8", b.told(8), 1);
     due("told 9", b.told(9), 2);
     due("states", b.told(11), 4);
+    due("start 0 again", b.sets(0, 0), 1);
+    due("order 0 again", b.sets(1, 0), 2);
+    due("both", b.told(8) + b.told(9), 0);
     int[][] wrongs = {{-1, 0}, {2, 0}, {0, -1}, {0, 3}, {1, -1}, {1, 3}, {LOW, 1}, {1, HIGH}};
     for (int[] w : wrongs) bad("sets " + w[0] + " " + w[1], b, o -> o.sets(w[0], w[1]));
   }
@@ -305,6 +317,8 @@ public final class PromisesTest {
     b.inside(1, 1, 1);
     b.inside(0, 0, 0);
     b.patch(1, 1, 60);
+    b.cell(2, 2, 5);
+    due("behind one below zero, a start", b.blends(0, 2, 2), bits(5f));
     // Now 2, 2 is the patch's 1, 1: above is 4, left is 255.
     due("above and left", b.blends(1, 2, 2), bits((10f + 56f + 20f - 195f + 30f + 41f) / 4f));
   }
@@ -352,6 +366,14 @@ public final class PromisesTest {
     due("even first 2", b.blends(1, 2, 2), bits(16f));
     due("even first 3", b.blends(1, 3, 2), bits(4f));
     due("even first 4", b.blends(1, 4, 2), 0);
+    b.sizes(2, 3);
+    b.cell(1, 2, 0);
+    b.cell(2, 1, 64);
+    b.cell(4, 4, 32);
+    // First 2, 2 then 3, 3 then 2, 4; behind them 3, 2 then 2, 3 then 3, 4.
+    float[][] want = {{16f, 4f}, {4f, 0f}, {0f, 8f}};
+    for (int y = 0; y < 3; y++)
+      for (int x = 0; x < 2; x++) due("even first, " + x + " " + y, b.blends(1, 2 + x, 2 + y), bits(want[y][x]));
   }
 
   /** Numbers too small for a float's leading bit, and a zero that is below zero. */
@@ -708,12 +730,21 @@ public final class PromisesTest {
     type(b, "r;");
     b.cell(8, 8, 8);
     b.back();
-    b.lies(2, 5);
+    b.lies(2, 4);
     due("another", b.digest(), digestOf(b, values, in));
     due("asking changes nothing", b.digest(), digestOf(b, values, in));
     b.cell(0, 0, 256);
     long counted = b.digest();
     due("a refusal counts in it", counted, digestOf(b, values, in));
+    BlendedPatch slow = new BlendedPatch();
+    slow.sizes(6, 6);
+    slow.lies(1, 1);
+    slow.cell(3, 0, 255);
+    slow.cell(3, 3, 255);
+    in = new int[36];
+    java.util.Arrays.fill(in, 1);
+    due("it is not yet settled", slow.sums(4, 0) == slow.sums(5, 0) || slow.sums(6, 0) == slow.sums(5, 0) ? 1 : 0, 0);
+    due("one not yet settled", slow.digest(), digestOf(slow, new int[36], in));
   }
 
   public static void main(String[] args) {
