@@ -12,6 +12,9 @@ import java.util.regex.Pattern;
 public final class AgainstModelTest {
   private static final int RUNS = 4000;
   private static final int CALLS = 120;
+  /** An object is promised for 512 calls; a text that is read takes up to 152 of them. */
+  private static final int LAST_BEGUN = 512 - 152 - 1;
+  private static int made = 0;
   private static int wrong = 0;
 
   /** What a state holds. */
@@ -315,6 +318,7 @@ public final class AgainstModelTest {
   }
 
   private static void due(int run, String call, long got, long want) {
+    made++;
     if (got != want && wrong++ < 40) System.out.println("run " + run + ": " + call + " answered " + got + ", due is " + want);
   }
 
@@ -357,7 +361,8 @@ public final class AgainstModelTest {
       Random r = new Random(run);
       BlendedPatch b = new BlendedPatch();
       Model m = new Model();
-      for (int i = 0; i < CALLS; i++) {
+      made = 0;
+      for (int i = 0; i < CALLS && made < LAST_BEGUN; i++) {
         call(run, r, b, m);
         if (i % 40 == 39) due(run, "digest", b.digest(), m.digest());
       }
