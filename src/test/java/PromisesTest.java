@@ -696,11 +696,12 @@ public final class PromisesTest {
 
   private static void digest() {
     promise = 22;
-    BlendedPatch b = new BlendedPatch();
+    BlendedPatch fresh = new BlendedPatch();
     int[] values = new int[16];
     int[] in = new int[16];
     java.util.Arrays.fill(in, 1);
-    due("new", b.digest(), digestOf(b, values, in));
+    due("new", fresh.digest(), digestOf(fresh, values, in));
+    BlendedPatch b = new BlendedPatch();
     b.sizes(3, 2);
     values = new int[] {1, 2, 3, 4, 5, 6};
     in = new int[] {1, 1, 0, 1, 0, 1};
